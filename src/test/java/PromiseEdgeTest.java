@@ -50,6 +50,7 @@ public final class PromiseEdgeTest {
         runBadNumber();
         runDown();
         checkpointBecomesState();
+        checkpointOnTheWayBack();
         checkpointAnswers();
         checkpointBad();
         checkpointDown();
@@ -57,6 +58,7 @@ public final class PromiseEdgeTest {
         crashRefused();
         recoverState();
         recoverAnswers();
+        recoverOnTheWayBack();
         recoverBad();
         recoverNone();
         registerZero();
@@ -511,6 +513,53 @@ public final class PromiseEdgeTest {
             due.is("recover", x.recover(p), x.kept(p));
             isSameState(x, y, p);
         }
+    }
+
+    /** Takes three messages in turn, sends each to process 1 and puts it out, crashes, and is up again. */
+    private static ReplayGroup backAfterThree() {
+        ReplayGroup x = Scenes.written(0, RECEIVE, 0, 1, SEND, 1, 0, PUT, 0, 0, GOTO, 0, 0);
+        for (int i = 1; i <= 3; i++) {
+            x.input(0, 10 * i);
+        }
+        due.is("run", x.run(0, 100), 12);
+        due.is("crash", x.crash(0), true);
+        due.is("recover", x.recover(0), 3);
+        return x;
+    }
+
+    private static void isAfterThree(ReplayGroup x, int held) {
+        due.is("held", x.held(0), held);
+        due.is("waiting", x.waiting(0, 1), 3);
+        due.is("outputs", x.outputs(), 3);
+        due.is("output(2)", x.output(2), 30);
+        due.is("sent", x.sent(0, 1), 3);
+        due.is("put out", x.state(0, 3), 3);
+        due.is("a message more", x.input(0, 40), 4);
+        due.is("run", x.run(0, 100), 4);
+        due.is("held", x.held(0), held);
+        due.is("waiting", x.waiting(0, 1), 4);
+        due.is("output(3)", x.output(3), 40);
+    }
+
+    private static void checkpointOnTheWayBack() {
+        due.begin("promise 7: a checkpoint before all was taken again");
+        ReplayGroup x = backAfterThree();
+        due.is("run", x.run(0, 5), 5);
+        due.is("checkpoint", x.checkpoint(0), 2);
+        due.is("kept", x.kept(0), 1);
+        due.is("run", x.run(0, 100), 7);
+        isAfterThree(x, 6);
+    }
+
+    private static void recoverOnTheWayBack() {
+        due.begin("promise 9: a crash before all was taken again");
+        ReplayGroup x = backAfterThree();
+        due.is("run", x.run(0, 6), 6);
+        due.is("held", x.held(0), 3);
+        due.is("crash", x.crash(0), true);
+        due.is("recover", x.recover(0), 3);
+        due.is("run", x.run(0, 100), 12);
+        isAfterThree(x, 3 + 6);
     }
 
     private static void isSameState(ReplayGroup x, ReplayGroup y, int p) {

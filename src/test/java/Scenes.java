@@ -90,13 +90,23 @@ final class Scenes {
         return x;
     }
 
-    /** Each log keeps 20, some of which were taken. */
+    /**
+     * Each log keeps 20, one of which was taken, and each channel holds two messages. All mix what they
+     * take into register 2 and need no room for that, so that they can take all of it.
+     */
     static ReplayGroup fullLogs() {
-        ReplayGroup x = atWork();
+        ReplayGroup x = new ReplayGroup();
         for (int p = 0; p < 3; p++) {
-            for (int i = x.kept(p); i < 20; i++) {
-                x.input(p, i);
+            write(x, p, SET, 3, 31, SEND, (p + 1) % 3, 3, SEND, (p + 2) % 3, 3, SEND, (p + 1) % 3, 0, SEND, (p + 2) % 3, 0,
+                RECEIVE, 0, 1, TIMES, 2, 3, ADD, 2, 0, TIMES, 2, 3, ADD, 2, 1, GOTO, 5, 0);
+            x.input(p, 3);
+            x.input(p, 4);
+            x.run(p, 5 + 6 * 2);
+            x.checkpoint(p);
+            for (int i = 0; i < 20; i++) {
+                x.input(p, 5 + i);
             }
+            x.run(p, 3);
         }
         return x;
     }
@@ -118,7 +128,7 @@ final class Scenes {
     }
 
     /**
-     * Each channel holds 8, and all wait for room for a 9th message. Behind the sending loop stands one
+     * Each channel holds 8, and all are to send a 9th message next. Behind the sending loop stands one
      * that mixes all messages into register 1.
      */
     static ReplayGroup fullChannels() {
@@ -127,12 +137,12 @@ final class Scenes {
             write(x, p, SET, 0, 7 + p, SET, 1, 9 * 31, SET, 2, 31,
                 SEND, (p + 1) % 3, 0, SEND, (p + 2) % 3, 0, ADD, 0, 0, ADD, 3, 2, LESS, 3, 1, GOTO, 10, 0, GOTO, 3, 0,
                 RECEIVE, 0, 3, TIMES, 1, 2, ADD, 1, 0, TIMES, 1, 2, ADD, 1, 3, GOTO, 10, 0);
-            x.run(p, 100);
+            x.run(p, 3 + 6 * 8);
         }
         return x;
     }
 
-    /** There are 60 outputs, 25 of process 0 and 35 of process 1, and both wait for room. */
+    /** There are 60 outputs, 25 of process 0 and 35 of process 1, and both are to put out one more next. */
     static ReplayGroup fullOutputs() {
         ReplayGroup x = new ReplayGroup();
         for (int p = 0; p < 3; p++) {
@@ -140,8 +150,7 @@ final class Scenes {
         }
         x.run(0, 2 + 3 * 25);
         x.run(1, 100);
-        x.run(1, 100);
-        x.step(0);
+        x.run(1, 2 + 3 * 35 - 100);
         return x;
     }
 
@@ -161,18 +170,17 @@ final class Scenes {
     static ReplayGroup ended() {
         ReplayGroup x = written(0, SET, 0, 5, PUT, 0, 0);
         write(x, 1, SET, 1, 6, GOTO, 15, 0);
-        x.run(0, 100);
-        x.run(1, 100);
+        x.run(0, 2);
+        x.run(1, 2);
         return x;
     }
 
-    /** Process 0 waits for a message with its first instruction, process 1 with its third. */
+    /** There is no message for the first instruction of process 0, nor for the fifth of process 1. */
     static ReplayGroup waitingForMessages() {
         ReplayGroup x = written(0, RECEIVE, 0, 1, PUT, 0, 0);
-        write(x, 1, SET, 2, 6, RECEIVE, 0, 1, RECEIVE, 2, 3, PUT, 2, 0);
+        write(x, 1, SET, 1, 5, SET, 2, 6, SET, 3, 7, RECEIVE, 0, 1, RECEIVE, 2, 3, PUT, 2, 0);
         x.input(1, 9);
-        x.run(0, 100);
-        x.run(1, 100);
+        x.run(1, 4);
         return x;
     }
 

@@ -741,10 +741,12 @@ public final class TermsEdgeTest {
         unchanged("to send", Scenes::fullChannels, x -> x.step(0), WAITS);
         unchanged("to put out", Scenes::fullOutputs, x -> x.step(0), WAITS);
         ReplayGroup x = Scenes.waitingForMessages();
+        due.is("step", x.step(0), WAITS);
+        due.is("step", x.step(1), WAITS);
         due.is("code of one that did nothing but wait", x.code(0, SET, 0, 9), true);
         due.is("of one that did something before it waited", x.code(1, SET, 0, 9), false);
-        due.is("the age", x.state(1, 1), 2);
-        due.is("the place", x.state(1, 0), 2);
+        due.is("the age", x.state(1, 1), 4);
+        due.is("the place", x.state(1, 0), 4);
     }
 
     private static void endDoesNothing() {

@@ -77,20 +77,42 @@ final class Unchanged {
         }
     }
 
-    /** What stands in logs, channels and programs comes into registers and outputs. */
+    /**
+     * What stands in logs, channels and programs comes into registers and outputs. Running comes first,
+     * since a call that is refused in both groups could spoil the same thing in both.
+     */
     private void goOn() {
+        runAll();
+        runAll();
+        look();
+        checkpointAll();
         for (int round = 0; round < 3; round++) {
             for (int p = 0; p < 3; p++) {
-                int process = p;
-                same("input", x -> x.input(process, 77));
-                deliverFrom(process);
+                deliverFrom(p);
             }
-            for (int p = 0; p < 3; p++) {
-                int process = p;
-                same("run", x -> x.run(process, 100));
-                same("step", x -> x.step(process));
-            }
-            look();
+            runAll();
+        }
+        look();
+        for (int p = 0; p < 3; p++) {
+            int process = p;
+            same("input", x -> x.input(process, 77));
+            same("step", x -> x.step(process));
+        }
+        runAll();
+        look();
+    }
+
+    private void runAll() {
+        for (int p = 0; p < 3; p++) {
+            int process = p;
+            same("run", x -> x.run(process, 100));
+        }
+    }
+
+    private void checkpointAll() {
+        for (int p = 0; p < 3; p++) {
+            int process = p;
+            same("checkpoint", x -> x.checkpoint(process));
         }
     }
 
@@ -114,10 +136,7 @@ final class Unchanged {
     }
 
     private void comeBackFromHere() {
-        for (int p = 0; p < 3; p++) {
-            int process = p;
-            same("checkpoint", x -> x.checkpoint(process));
-        }
+        checkpointAll();
         comeBack();
     }
 
