@@ -25,6 +25,7 @@ public final class FaceTest {
         checkConstructors(due);
         checkMethods(due);
         checkFields(due);
+        checkClassesInside(due);
         due.end();
     }
 
@@ -86,5 +87,13 @@ public final class FaceTest {
         }
         TreeSet<String> want = new TreeSet<>(Arrays.asList(CONSTANTS));
         due.is("constants " + open + " against " + want, open.equals(want), true);
+    }
+
+    private static void checkClassesInside(Due due) {
+        due.begin("classes inside");
+        for (Class<?> inside : ReplayGroup.class.getDeclaredClasses()) {
+            int modifiers = inside.getModifiers();
+            due.is(inside.getName() + " is open", Modifier.isPublic(modifiers) || Modifier.isProtected(modifiers), false);
+        }
     }
 }
